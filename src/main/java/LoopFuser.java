@@ -12,6 +12,7 @@ public final class LoopFuser {
     private static final int MOST_STATEMENTS = 4;
     private static final int MOST_READS = 5;
     private static final int MOST_REFERENCES = MOST_STATEMENTS * (MOST_READS + 1);
+    private static final int MOST_LINKS = MOST_REFERENCES * MOST_REFERENCES;
     private static final int MOST_OPEN = 3;
     private static final int MOST_INDEX = 30;
 
@@ -232,6 +233,7 @@ public final class LoopFuser {
     public boolean isAllowed(int first, int last) throws IndexOutOfBoundsException, IllegalArgumentException {
         checkPair(first, last);
         checkGroup(first, last);
+        group.refresh();
         return group.longest(first) > last - first;
     }
 
@@ -305,6 +307,7 @@ public final class LoopFuser {
         checkPair(first, last);
         checkGroup(first, last);
         trace.begin(program.options[WINDOW]);
+        group.refresh();
         group.take(first, last);
         trace.follow(group);
         return trace.hits;
@@ -405,6 +408,7 @@ public final class LoopFuser {
             throw new IllegalArgumentException("there is no such arrangement");
         }
         Plan plan = plans[arrangement];
+        group.refresh();
         plan.make();
         return plan;
     }
@@ -799,9 +803,9 @@ public final class LoopFuser {
 
     /** The dependences of two loops; the rows are used again for the next two. */
     private static final class Links {
-        final int[] arrays = new int[MOST_REFERENCES * MOST_REFERENCES];
-        final int[] kinds = new int[MOST_REFERENCES * MOST_REFERENCES];
-        final int[] shifts = new int[MOST_REFERENCES * MOST_REFERENCES];
+        final int[] arrays = new int[MOST_LINKS];
+        final int[] kinds = new int[MOST_LINKS];
+        final int[] shifts = new int[MOST_LINKS];
         int count;
         int greatest;
 
@@ -810,27 +814,29 @@ public final class LoopFuser {
             greatest = NO_LINK;
             for (int u = 0; u < p.body.referenceTotal && u < MOST_REFERENCES; u++) {
                 for (int v = 0; v < q.body.referenceTotal && v < MOST_REFERENCES; v++) {
-                    if (meet(p, u, q, v) && count < shifts.length) {
-                        int shift = q.body.places[v] - p.body.places[u];
-                        arrays[count] = p.body.places[u] / CELLS;
-                        kinds[count] = !p.body.writes[u] ? 1 : q.body.writes[v] ? 2 : 0;
-                        shifts[count] = shift;
-                        count++;
-                        greatest = Math.max(greatest, shift);
+                    boolean earlierWrites = p.body.writes[u];
+                    boolean laterWrites = q.body.writes[v];
+                    if ((earlierWrites || laterWrites) && meet(p, p.body.places[u], q, q.body.places[v])) {
+                        int kind = !earlierWrites ? 1 : laterWrites ? 2 : 0;
+                        add(kind, p.body.places[u], q.body.places[v]);
                     }
                 }
             }
         }
 
-        /** Whether two references, one of them a write, refer to the same cell in some iterations. */
-        static boolean meet(Loop p, int u, Loop q, int v) {
-            if (!p.body.hasReference(u) || !q.body.hasReference(v)) {
-                return false;
+        /** Whether references with these places for i = 0 refer to the same cell in some iterations. */
+        private static boolean meet(Loop p, int from, Loop q, int to) {
+            return from / CELLS == to / CELLS && p.first + from <= q.last + to && q.first + to <= p.last + from;
+        }
+
+        private void add(int kind, int from, int to) {
+            if (count < MOST_LINKS) {
+                arrays[count] = from / CELLS;
+                kinds[count] = kind;
+                shifts[count] = to - from;
+                greatest = Math.max(greatest, shifts[count]);
+                count++;
             }
-            int from = p.body.places[u];
-            int to = q.body.places[v];
-            return (p.body.writes[u] || q.body.writes[v]) && from / CELLS == to / CELLS
-                    && p.first + from <= q.last + to && q.first + to <= p.last + from;
         }
     }
 
@@ -859,21 +865,8 @@ public final class LoopFuser {
             this.links = links;
         }
 
-        void take(int first, int last) {
-            findNeeds();
-            this.first = Math.max(first, 0);
-            this.last = Math.min(last, program.count - 1);
-            for (int q = this.first; q <= this.last && q < MOST_LOOPS; q++) {
-                shifts[q] = 0;
-                for (int p = this.first; p < q; p++) {
-                    shifts[q] = Math.max(shifts[q], shifts[p] + needs[p][q]);
-                }
-            }
-            countSteps();
-        }
-
-        /** The shifts of many groups are asked of one program, so its pairs are looked at once. */
-        private void findNeeds() {
+        /** Looks at the pairs of loops, once for all groups that are taken from the same program. */
+        void refresh() {
             if (neededFor == program.version) {
                 return;
             }
@@ -884,6 +877,18 @@ public final class LoopFuser {
                 }
             }
             neededFor = program.version;
+        }
+
+        void take(int first, int last) {
+            this.first = Math.max(first, 0);
+            this.last = Math.min(last, program.count - 1);
+            for (int q = this.first; q <= this.last && q < MOST_LOOPS; q++) {
+                shifts[q] = 0;
+                for (int p = this.first; p < q; p++) {
+                    shifts[q] = Math.max(shifts[q], shifts[p] + needs[p][q]);
+                }
+            }
+            countSteps();
         }
 
         private void countSteps() {
@@ -977,19 +982,14 @@ public final class LoopFuser {
             for (int n = 0; n < body.referenceTotal && n < MOST_REFERENCES; n++) {
                 int place = body.places[n] + i;
                 if (place >= 0 && place < PLACES) {
-                    if (!body.writes[n]) {
-                        countRead(time - latest[place]);
-                    }
+                    int distance = time - latest[place];
                     latest[place] = time;
+                    reads += body.writes[n] ? 0 : 1;
+                    if (!body.writes[n] && distance <= window) {
+                        hits++;
+                        farthest = Math.max(farthest, distance);
+                    }
                 }
-            }
-        }
-
-        private void countRead(int distance) {
-            reads++;
-            if (distance <= window) {
-                hits++;
-                farthest = Math.max(farthest, distance);
             }
         }
     }

@@ -54,6 +54,26 @@ final class ArrangementsTest {
                 "for(0,9){c[i]=a[i+1]+b[i]+d[i]}");
         sizesDue("most hits", more, 2, 1, 2);
         sizesDue("most hits do not count for arrangement 1", more, 1, 2, 1);
+        promise21Fewest();
+    }
+
+    /**
+     * Loops 0 and 2, 2 and 4, 3 and 5 may not stand together. Loops 0 and 1 share 21 hits, 3 and 4 too,
+     * and 1 and 3 share 42, so that four groups 2, 1, 2, 1 have as many hits as three groups 1, 3, 2.
+     */
+    private static void promise21Fewest() {
+        LoopFuser fuser = Checks.with("for(0,20){a[i]=1;d[i-9]=1}for(0,20){b[i]=a[i];c[i]=1}",
+                "for(0,20){a[i-9]=d[i+1]}for(0,20){e[i]=b[i]+c[i];b[i-9]=1}",
+                "for(0,20){d[i]=e[i]+a[i+1]}for(0,20){c[i]=b[i+1]}");
+        checks.due("hits of four groups", 42, fuser.hits(0, 1) + fuser.hits(2, 2) + fuser.hits(3, 4) + fuser.hits(5, 5));
+        checks.due("hits of three groups", 42, fuser.hits(0, 0) + fuser.hits(1, 3) + fuser.hits(4, 5));
+        sizesDue("of equals the fewest groups", fuser, 2, 1, 3, 2);
+        sizesDue("as many as possible from the first on", fuser, 1, 2, 2, 2);
+        checks.due("hits of the best", 42, fuser.reads(2, 1));
+        checks.due("hits asked again", 42, fuser.reads(2, 1));
+        checks.due("all reads", 147, fuser.reads(2, 0));
+        checks.due("all reads asked again", 147, fuser.reads(2, 0));
+        checks.due("shift in the best", 0, fuser.shift(2, 3));
     }
 
     private static void sizesDue(String what, LoopFuser fuser, int arrangement, int... sizes) {
@@ -175,6 +195,10 @@ final class ArrangementsTest {
         readsDue(10, 0, 0, 9, "for(0,9){a[i]=a[i]}");
         readsDue(10, 9, 1, 9, "for(0,9){a[i]=a[i-1]}");
         readsDue(10, 10, 0, 0, "for(0,9){a[i]=1;b[i]=a[i]}");
+        LoopFuser far = Checks.with("for(0,9){a[i]=a[i-3]}");
+        checks.due("greatest distance at first", 3, far.reads(0, 2));
+        far.setOption(1, 2);
+        checks.due("greatest distance of less hits after more", 0, far.reads(0, 2));
         readsDue(10, 1, 9, 9, "for(0,9){a[i]=a[i-9]}");
         readsDue(10, 0, 0, 8, "for(0,9){a[i]=a[i-9]}");
         readsDue(0, 0, 0, 3, "for(0,9){a[i]=1}");

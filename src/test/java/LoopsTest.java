@@ -44,6 +44,12 @@ final class LoopsTest {
         checks.due("removeLoop of the last", 1, fuser.removeLoop(1));
         checks.due("removeLoop of the only one", 0, fuser.removeLoop(0));
         checks.fails("removeLoop without loops", INDEX, () -> fuser.removeLoop(0));
+        LoopFuser six = Checks.with("for(0,0){a[i]=1}for(1,1){a[i]=1}for(2,2){a[i]=1}",
+                "for(3,3){a[i]=1}for(4,4){a[i]=1}for(5,5){a[i]=1}");
+        six.removeLoop(1);
+        for (int n = 0; n < 5; n++) {
+            checks.due("loop " + n + " of six without the second", n == 0 ? 0 : n + 1, six.bound(n, 0));
+        }
         LoopFuser barred = three();
         barred.setBarrier(2, true);
         barred.removeLoop(2);
@@ -112,6 +118,12 @@ final class LoopsTest {
         checks.due("referenceCount(0)", 7, fuser.referenceCount(0));
         checks.due("referenceCount(1)", 1, fuser.referenceCount(1));
         checks.due("referenceCount(2)", 19, fuser.referenceCount(2));
+        LoopFuser most = Checks.with("for(0,0){a[i]=a[i]*a[i]*a[i]*a[i]*a[i];b[i]=b[i]*b[i]*b[i]*b[i]*b[i]"
+                + ";c[i]=c[i]*c[i]*c[i]*c[i];d[i]=d[i]*d[i]*d[i]*d[i]}");
+        checks.due("as many references as a text can hold", 22, most.referenceCount(0));
+        checks.due("the last of them is a write", 1, most.reference(0, 21, 2));
+        checks.due("the last of them is to d", 3, most.reference(0, 21, 0));
+        checks.due("the last of them is in statement 3", 3, most.reference(0, 21, 3));
         checks.fails("referenceCount(3)", INDEX, () -> fuser.referenceCount(3));
         checks.fails("referenceCount(-1)", INDEX, () -> fuser.referenceCount(-1));
     }

@@ -116,6 +116,8 @@ final class RunsTest {
         checks.due("changed cells", 62, fuser.changed(2));
         Checks.add(fuser, "for(0,0){b[i+9]=7*9+2}");
         checks.due("a cell changed back", 61, fuser.changed(2));
+        checks.due("the first and the last cell count", 2,
+                Checks.with("for(0,0){a[i-9]=1}for(30,30){e[i+9]=1}").changed(0));
         fuser.setOption(2, 0);
         checks.due("changed by the present seed: b[9] held 63", 62, fuser.changed(0));
         checks.fails("changed(3)", ARGUMENT, () -> fuser.changed(3));

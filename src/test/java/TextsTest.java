@@ -141,6 +141,7 @@ final class TextsTest {
         fault(1, "f");
         fault(2, "fo");
         fault(2, "fox");
+        fault(2, "fofor(x");
         fault(3, "for");
         fault(3, "for{");
         fault(4, "for(");
