@@ -21,6 +21,7 @@ final class ArrangementsTest {
         promise27Reads();
         promise28Hits();
         allSeeChanges();
+        hitsAndAllowedSeeChanges();
         checks.finish();
     }
 
@@ -268,5 +269,25 @@ final class ArrangementsTest {
             checks.due("shift after removeLoop", 9, fuser.shift(arrangement, 1));
             fuser.restore();
         }
+    }
+
+    /** The same for calls that ask no arrangement; nothing else is asked between. */
+    private static void hitsAndAllowedSeeChanges() {
+        String text = "for(0,9){c[i]=1}for(0,9){a[i]=1}for(0,9){b[i]=a[i+4]}";
+        LoopFuser fuser = Checks.with(text);
+        fuser.setOption(1, 0);
+        checks.due("hits with a shift of 4, asked first", 6, fuser.hits(1, 2));
+        fuser.removeLoop(0);
+        checks.due("hits after removeLoop", 6, fuser.hits(0, 1));
+        fuser.setBound(0, 0, 7);
+        checks.due("hits after setBound", 3, fuser.hits(0, 1));
+        LoopFuser other = Checks.with(text);
+        other.setOption(0, 3);
+        checks.due("not allowed with a shift of 4, asked first", false, other.isAllowed(1, 2));
+        other.removeLoop(0);
+        checks.due("not allowed after removeLoop", false, other.isAllowed(0, 1));
+        other.setBound(1, 1, 0);
+        other.setBound(0, 1, 3);
+        checks.due("allowed after setBound", true, other.isAllowed(0, 1));
     }
 }
