@@ -2,13 +2,19 @@
 final class Checks {
     private int made = 0;
     private int wrong = 0;
+    private String sentence = "";
+
+    /** Says which sentence of the document the checks from here on are about. */
+    void about(String sentence) {
+        this.sentence = sentence.isEmpty() ? "" : " [" + sentence + "]";
+    }
 
     /** Checks an answer; a boolean counts 1 or 0. */
     void due(String what, long want, long got) {
         made++;
         if (want != got) {
             wrong++;
-            System.out.println(what + " answered " + got + ", due is " + want);
+            System.out.println(what + " answered " + got + ", due is " + want + sentence);
         }
     }
 
@@ -29,7 +35,23 @@ final class Checks {
             got = e.getClass().getSimpleName();
         }
         wrong++;
-        System.out.println(what + " threw " + got + ", due is " + want.getSimpleName());
+        System.out.println(what + " threw " + got + ", due is " + want.getSimpleName() + sentence);
+    }
+
+    /** Checks the fault position of a text, -1 for none, and that read answers or throws by it. */
+    void fault(int want, String text) {
+        LoopFuser fuser = new LoopFuser();
+        type(fuser, text);
+        if (want < 0) {
+            int loops = text.split("for", -1).length - 1;
+            due("read of " + text, loops, fuser.read());
+            due("loops of " + text, loops, fuser.loopCount());
+        } else {
+            fails("read of " + text, IllegalArgumentException.class, fuser::read);
+            due("loops of " + text, 0, fuser.loopCount());
+        }
+        due("fault position of " + text, want, fuser.faultPosition());
+        due("characters after read of " + text, 0, fuser.append(0));
     }
 
     /** Ends the program, with exit code 1 if a check failed. */

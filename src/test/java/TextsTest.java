@@ -283,18 +283,7 @@ final class TextsTest {
         fault(-1, AHEAD + "a[i]+a[i]+a[i]+a[i]+a[i];a[i]=a[i]+a[i]+a[i]+a[i]+a[i]}");
     }
 
-    /** Checks the fault position of a text, and that read answers or throws by it. */
     private static void fault(int want, String text) {
-        LoopFuser fuser = new LoopFuser();
-        Checks.type(fuser, text);
-        if (want < 0) {
-            int loops = text.split("for", -1).length - 1;
-            checks.due("read of " + text, loops, fuser.read());
-            checks.due("loops of " + text, loops, fuser.loopCount());
-        } else {
-            checks.fails("read of " + text, ARGUMENT, fuser::read);
-            checks.due("loops of " + text, 0, fuser.loopCount());
-        }
-        checks.due("fault position of " + text, want, fuser.faultPosition());
+        checks.fault(want, text);
     }
 }
