@@ -298,7 +298,8 @@ public final class LoopFuser {
         trace.begin(program.options[WINDOW]);
         for (int n = 0; n < plan.total; n++) {
             plan.takeGroup(n);
-            trace.follow(group);
+            trace.forget();
+            group.perform(trace);
         }
         return what == 0 ? trace.reads : what == 1 ? trace.hits : trace.farthest;
     }
@@ -309,7 +310,7 @@ public final class LoopFuser {
         trace.begin(program.options[WINDOW]);
         group.refresh();
         group.take(first, last);
-        trace.follow(group);
+        group.perform(trace);
         return trace.hits;
     }
 
@@ -955,7 +956,7 @@ public final class LoopFuser {
         }
     }
 
-    /** Counts the reads and hits of the groups that it follows. */
+    /** Counts the reads and hits of the groups that are performed with it. */
     private static final class Trace implements Worker {
         /** The latest time step of a reference to each place. */
         final int[] latest = new int[PLACES];
@@ -969,13 +970,14 @@ public final class LoopFuser {
             reads = 0;
             hits = 0;
             farthest = 0;
+            forget();
         }
 
-        void follow(Group group) {
+        /** References made in other groups do not count. */
+        void forget() {
             for (int place = 0; place < PLACES; place++) {
                 latest[place] = NEVER;
             }
-            group.perform(this);
         }
 
         public void iterate(int time, Body body, int i) {
@@ -1107,7 +1109,7 @@ public final class LoopFuser {
                 for (int size = Math.min(group.longest(first), count - first); size >= 1; size--) {
                     group.take(first, first + size - 1);
                     trace.begin(program.options[WINDOW]);
-                    trace.follow(group);
+                    group.perform(trace);
                     int hits = trace.hits + bestHits[first + size];
                     int groups = 1 + bestGroups[first + size];
                     if (bestSizes[first] == 0 || hits > bestHits[first]

@@ -32,6 +32,7 @@ final class TextEdgesTest {
         checkedAsSoonAsRead();
         onlyTheFirstFault();
         outOfRangeAtTheEnd();
+        thirdDigits();
         readsOfTheRightSide();
         noSignedZero();
         tooManyLoops();
@@ -358,6 +359,24 @@ final class TextEdgesTest {
         checks.fault(8, "for(0,123){a[i]=1}");
         checks.fault(8, "for(0,300){a[i]=1}");
         checks.fault(16, AHEAD + "123}");
+    }
+
+    /** A number above 30 is a fault before its third digit is one; a number that is allowed leaves it to the digit. */
+    private static void thirdDigits() {
+        checks.about("of a third digit the digit is the fault. [..] only the first fault counts.");
+        for (int number = 10; number <= 99; number++) {
+            for (String rest : new String[] {"2", "0", "9,9){a[i]=1}", "29"}) {
+                checks.fault(number <= 30 ? 6 : 4, "for(" + number + rest);
+                checks.fault(number <= 30 ? 8 : 6, "for(0," + number + rest);
+                checks.fault(number >= 20 && number <= 30 ? 9 : 7, "for(20," + number + rest);
+            }
+        }
+        checks.fault(4, "for(312,999){a[i]=123}");
+        checks.fault(6, "for(123,999){a[i]=123}");
+        checks.fault(8, "for(0,123){a[i]=123}");
+        checks.fault(16, "for(0,0){a[i]=312}");
+        checks.fault(20, SHORTEST + "for(312");
+        checks.fault(22, SHORTEST + "for(123");
     }
 
     private static void readsOfTheRightSide() {
