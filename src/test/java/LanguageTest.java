@@ -68,6 +68,10 @@ final class LanguageTest extends TreePathScanner<Void, Void> {
     public static void main(String[] args) throws IOException {
         File source = new File(args.length > 0 ? args[0] : ".", "src/main/java/LoopFuser.java");
         JavaCompiler compiler = ToolProvider.getSystemJavaCompiler();
+        if (compiler == null) {
+            System.out.println("NOT LOOKED AT: this java has no compiler inside, so the source can't be read");
+            return;
+        }
         try (StandardJavaFileManager files = compiler.getStandardFileManager(null, null, null)) {
             JavacTask task = (JavacTask) compiler.getTask(null, files, null, List.of("-proc:none"), null,
                     files.getJavaFileObjects(source));

@@ -32,9 +32,13 @@ final class ReadmeTest {
         while (answers.find()) {
             due.add(answers.group(1));
         }
-        List<String> got = output(root.resolve("build/readme"), example);
-        checks.due("answers of the example", due.size(), got.size());
-        checks.due("the example answers " + got + ", due is " + due, true, due.equals(got) && due.size() > 10);
+        checks.due("the example shows answers", true, due.size() > 10);
+        if (ToolProvider.getSystemJavaCompiler() == null) {
+            System.out.println("NOT LOOKED AT: this java has no compiler inside, so the example can't be run");
+        } else {
+            List<String> got = output(root.resolve("build/readme"), example);
+            checks.due("the example answers " + got + ", due is " + due, true, due.equals(got));
+        }
         checks.finish();
     }
 
